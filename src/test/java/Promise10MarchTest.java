@@ -52,6 +52,7 @@ public final class Promise10MarchTest {
         march("ddm;00000", 7, 1, 2, 5);
         march("mdd;00000", 7, 1, 2, 3);
         march("hhm;00000", 7, 1, 2, 5);
+        march("dm;00000", 3, 1, 1, 2);
         // a boy is no beast
         march("bb;00000", 3, 1, 3, 0);
         march("mb;00000", 3, 1, 3, 0);

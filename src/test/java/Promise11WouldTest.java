@@ -57,6 +57,8 @@ public final class Promise11WouldTest {
 
     private static void changesNothing() {
         ColdDepots x = Due.camp("mdh;99999");
+        DUE.due("would(1, 6, 0, 3)", x.would(1, 6, 0, 3), 1);
+        DUE.due("would(1, 1, 2, 3) behind a march that died", x.would(1, 1, 2, 3), 0);
         long before = x.digest();
         for (int what = 0; what <= 3; what++) {
             x.would(7, 4, 9, what);

@@ -30,6 +30,7 @@ public final class Promise21DigestTest {
         digest("nobody lives", x, "~\u0001", 0);
         x.team(1);
         digest("a team asked", x, "~\u0001", 0);
+        digest("a camp that can pull more than 12", Due.camp("mmp;00080"), "", 7);
         DUE.due("digest() changes nothing", x.digest(), x.digest());
         DUE.end();
     }
