@@ -1,3 +1,5 @@
+import java.util.List;
+
 /** What the tests share: it counts the answers that are not as due, and tells them. */
 final class Due {
     private int wrong;
@@ -8,10 +10,16 @@ final class Due {
         }
     }
 
-    /** A new object that has read this camp. */
-    static ColdDepots camp(String text) {
+    /** A new object with this page. */
+    static ColdDepots page(String text) {
         ColdDepots x = new ColdDepots();
         type(x, text);
+        return x;
+    }
+
+    /** A new object that has read this camp. */
+    static ColdDepots camp(String text) {
+        ColdDepots x = page(text);
         x.camp();
         return x;
     }
@@ -23,8 +31,25 @@ final class Due {
         }
     }
 
+    /** Tells the first line alone that is not the same. */
+    void same(String when, List<String> got, List<String> want) {
+        for (int place = 0; place < Math.max(got.size(), want.size()); place++) {
+            String one = place < got.size() ? got.get(place) : "nothing";
+            String other = place < want.size() ? want.get(place) : "nothing";
+            if (!one.equals(other)) {
+                wrong++;
+                System.out.println(when + ": told is " + one + ", due is " + other);
+                return;
+            }
+        }
+    }
+
+    boolean holds() {
+        return wrong == 0;
+    }
+
     void end() {
-        if (wrong != 0) {
+        if (!holds()) {
             System.exit(1);
         }
     }
