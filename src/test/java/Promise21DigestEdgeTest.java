@@ -21,8 +21,16 @@ public final class Promise21DigestEdgeTest {
         digest(Standing.NOBODY, "", 0);
         digest(Standing.SECOND, Standing.TWO_TEXT, 3);
         digest(heardWrong(), "", 3);
+        digest(noneAtCairn3(), "", 15);
+        digest(Standing.made("a camp to which 11, 12 and 13 are not the same", () -> Due.camp("pmh;50265")), "", 7);
         CASES.test("of a new object: the eleven counts are 0", due -> {
             due.due("digest()", new ColdDepots().digest(), 1051 * Digests.power(11));
+        });
+        CASES.test("LAY of cairns 2, 3 and 4 where it is none at 3 alone", due -> {
+            ColdDepots x = noneAtCairn3().make();
+            due.due("cairn(2, 1)", x.cairn(2, 1), 1020);
+            due.due("cairn(3, 1)", x.cairn(3, 1), 0);
+            due.due("cairn(4, 1)", x.cairn(4, 1), 1008);
         });
         CASES.test("TRY is none and NEED is none in it", due -> {
             ColdDepots x = heardWrong().make();
@@ -36,6 +44,15 @@ public final class Promise21DigestEdgeTest {
         return Standing.made("something wrong is heard", () -> {
             ColdDepots x = Due.camp("mm;12345");
             x.hear(1, 1, 0, true);
+            return x;
+        });
+    }
+
+    /** Only at cairn 3 nothing fits: TRY is to be told of the LAY of cairn 3. */
+    private static Standing noneAtCairn3() {
+        return Standing.made("LAY is none at cairn 3, but not at 2 and 4", () -> {
+            ColdDepots x = Due.camp("pbhd;00000");
+            x.hear(15, 5, 18, true);
             return x;
         });
     }
